@@ -1,0 +1,71 @@
+import java.lang.management.ManagementFactory;
+
+/** What 512 calls of one kind take of the room: a call may leave texts behind, but no numbers and no rows. */
+public final class RoomTest {
+    private interface Call {
+        void run(Rootwalk x);
+    }
+
+    private static final int CALLS = 512;
+    // far below the room of 600,000 objects: some 4 KB a call are 2 MB in all
+    private static final long MOST_BYTES_A_CALL = 4096;
+    private static int wrong = 0;
+
+    public static void main(String[] args) {
+        measure("digest", x -> x.digest());
+        measure("isSound", x -> x.isSound());
+        measure("isRead by 2", x -> x.isRead(0, 2));
+        measure("isRead as bytes", x -> x.isRead(0, 0));
+        measure("walkText by 2", x -> x.walkText(0, 0, 2));
+        measure("open", x -> x.open(0, x.part(0, 0) == 82 ? 99 : 82));
+        measure("walkCopy", x -> x.walkCopy(1, 0));
+        measure("alike", x -> x.alike(0));
+        measure("isNear", x -> x.isNear(0, 2));
+        measure("decimals", x -> x.decimals(0, 16));
+        measure("periodText", x -> x.periodText(94));
+        measure("rank", x -> x.rank(0));
+        measure("power", x -> x.power(1, 5));
+        measure("compose", x -> x.compose(0, 0, 1));
+        measure("pairNorm", x -> x.pairNorm(1));
+        measure("settle", x -> { x.split(0, 997); x.settle(0); });
+        measure("product", x -> x.product(0, 1));
+        if (wrong == 0) {
+            System.out.println("RoomTest: all calls keep to the room");
+        } else {
+            System.exit(1);
+        }
+    }
+
+    private static void measure(String name, Call call) {
+        com.sun.management.ThreadMXBean bean = (com.sun.management.ThreadMXBean) ManagementFactory.getThreadMXBean();
+        Rootwalk x = prepared();
+        call.run(x);
+        long before = bean.getCurrentThreadAllocatedBytes();
+        for (int i = 0; i < CALLS; i++) {
+            call.run(x);
+        }
+        long each = (bean.getCurrentThreadAllocatedBytes() - before) / CALLS;
+        if (each > MOST_BYTES_A_CALL) {
+            wrong++;
+            System.out.println("RoomTest: " + name + " takes " + each + " bytes a call");
+        }
+    }
+
+    private static Rootwalk prepared() {
+        Rootwalk x = new Rootwalk();
+        x.open(0, 82);
+        x.open(1, 99);
+        x.open(2, 61);
+        for (int i = 0; i < 4; i++) {
+            x.forth(0, 6);
+            x.forth(1, 6);
+            x.forth(2, 6);
+        }
+        x.least(0, 3);
+        x.power(0, 5);
+        x.power(0, 5);
+        x.take(2, 1);
+        x.split(1, 997);
+        return x;
+    }
+}
