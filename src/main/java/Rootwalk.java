@@ -607,7 +607,8 @@ public final class Rootwalk {
     private static long rootDecimals(int base, int places) {
         long root = rootOf(base);
         long left = base - root * root;
-        // digit by digit as by hand: left is below 10^17 throughout, so 100 * left fits into a long
+        // digit by digit as by hand; left is at most 2 * root, so below 2 * 10^16 ahead of the last digit,
+        // and 100 * left fits into a long
         for (int i = 0; i < places; i++) {
             left *= TEN * TEN;
             long digit = 0;
@@ -687,15 +688,16 @@ public final class Rootwalk {
 
     private boolean isWalkSound(Walk asked) {
         int step = asked.step;
-        boolean isOdd = step % 2 == 1;
+        int sign = step % 2 == 1 ? 1 : -1;
         int m = fraction.partM(step);
         int d = fraction.partD(step);
-        int next = fraction.partD(step + 1);
+        Whole top = fraction.top(step);
+        Whole bottom = fraction.bottom(step);
         return m >= 0 && m <= fraction.root
             && d >= 1 && d <= 2 * fraction.root
-            && desk.divisor(fraction.top(step), fraction.bottom(step)).isOne()
-            && walkTest(asked, 1) == (isOdd ? 1 : -1)
-            && walkTest(asked, 2) == (isOdd ? next : -next);
+            && desk.divisor(top, bottom).isOne()
+            && desk.cross(top, bottom, fraction.top(step - 1), fraction.bottom(step - 1)).isNumber(sign)
+            && desk.norm(asked.base, top, bottom).isNumber(sign * fraction.partD(step + 1));
     }
 
     private boolean isPairSound(Pair asked) {
@@ -1127,7 +1129,11 @@ public final class Rootwalk {
         }
 
         boolean isOne() {
-            return used == 1 && row[0] == 1 && !isBelow;
+            return isNumber(1);
+        }
+
+        boolean isNumber(int value) {
+            return used <= 1 && (isBelow ? -row[0] : row[0]) == value;
         }
 
         void setNumber(long value) {
@@ -1164,7 +1170,7 @@ public final class Rootwalk {
         /** Counts the digits anew; those from the place on are 0. */
         private void trim(int place) {
             used = 0;
-            for (int i = Math.min(ROW, place) - 1; i >= 0 && used == 0; i--) {
+            for (int i = (place < ROW ? place : ROW) - 1; i >= 0 && used == 0; i--) {
                 if (row[i] != 0) {
                     used = i + 1;
                 }
