@@ -621,9 +621,10 @@ public final class PromiseTests {
         promise = 41;
         eq("ways", x.way(0) + ", " + x.way(1) + ", " + x.way(2), "2 1, 3 2, 5 4");
         eq("no step was made", numbers(x, 2), "41 3 9 41 9 0 1 0");
-        while (x.splitNumber(2, 4) != 0) {
+        for (int step = 0; step < 4; step++) {
             x.euclid(2);
         }
+        eq("no step is left", x.splitNumber(2, 4), 0);
         eq("way behind the last step", x.way(2), "5 4");
         index("way(3)", () -> x.way(3));
         index("way(-1)", () -> x.way(-1));

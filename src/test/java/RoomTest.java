@@ -1,14 +1,15 @@
 import java.lang.management.ManagementFactory;
 
-/** What 512 calls of one kind take of the room: a call may leave texts behind, but no numbers and no rows. */
+/** What calls of one kind take of the room that 512 calls have: some 600,000 objects of 7.3 million elements. */
 public final class RoomTest {
     private interface Call {
         void run(Rootwalk x);
     }
 
-    private static final int CALLS = 512;
-    // far below the room of 600,000 objects: some 4 KB a call are 2 MB in all
-    private static final long MOST_BYTES_A_CALL = 4096;
+    // with those that prepare the object at most 512
+    private static final int CALLS = 240;
+    // an element takes at least a byte and an object at least 16, so 512 calls of so many bytes are within both limits
+    private static final long MOST_BYTES_A_CALL = 14000;
     private static int wrong = 0;
 
     public static void main(String[] args) {
