@@ -1,3 +1,5 @@
+import java.math.BigInteger;
+
 /** The edges of the Description's "2. Solutions" and of the promises 15 to 20. */
 final class BaseEdges {
     private static final String BASE = "Throws `IllegalArgumentException` if base is not a BASE";
@@ -36,6 +38,18 @@ final class BaseEdges {
         Edge.eq("PERIOD 3", solved(41), "2049 320");
         Edge.eq("PERIOD 11", solved(61) + "; " + solved(97), "1766319049 226153980; 62809633 6377352");
         Edge.eq("PERIOD 16", solved(94), "2143295 221064");
+        for (int base = 2; base <= 99; base++) {
+            if (!Edge.isSquare(base)) {
+                Edge.eq("NORM of that of " + base, norm(base, solved(base)), BigInteger.ONE);
+            }
+        }
+    }
+
+    private static BigInteger norm(int base, String numbers) {
+        String[] sides = numbers.split(" ");
+        BigInteger left = new BigInteger(sides[0]);
+        BigInteger right = new BigInteger(sides[1]);
+        return left.multiply(left).subtract(right.multiply(right).multiply(BigInteger.valueOf(base)));
     }
 
     private static String solved(int base) {
@@ -49,6 +63,11 @@ final class BaseEdges {
         Edge.eq("PERIOD 3", minusOf(41), "32 5");
         Edge.eq("PERIOD 11", minusOf(61) + "; " + minusOf(97), "29718 3805; 5604 569");
         Edge.eq("PERIOD 2 and 16", minusOf(3) + minusOf(99) + minusOf(94), "   ");
+        for (int base = 2; base <= 99; base++) {
+            if (!Edge.isSquare(base) && !minusOf(base).isBlank()) {
+                Edge.eq("NORM of that of " + base, norm(base, minusOf(base)), BigInteger.ONE.negate());
+            }
+        }
     }
 
     private static String minusOf(int base) {

@@ -105,11 +105,13 @@ final class Edge {
         }
     }
 
-    /** The call throws just this, and all is as it was. */
-    static void refuses(Class<?> exception, String label, Rootwalk x, Call call) {
+    /** The call throws just this, and all is as it was. Tells whether it is so. */
+    static boolean refuses(Class<?> exception, String label, Rootwalk x, Call call) {
+        int wrongBefore = wrong;
         String before = state(x);
         eq(label, answer(call, x), exception);
         eq(label + " changes", state(x), before);
+        return wrong == wrongBefore;
     }
 
     /** The ACT tells -9, and nothing but the count of these is another one. */
@@ -187,7 +189,10 @@ final class Edge {
 
     private static void refusesEach(Class<?> exception, CallOf call, int... values) {
         for (int value : values) {
-            refuses(exception, "with " + value, busy(), x -> call.on(x, value));
+            // a call that lets what is just outside may go on and on with the greatest number there is
+            if (!refuses(exception, "with " + value, busy(), x -> call.on(x, value))) {
+                return;
+            }
         }
     }
 

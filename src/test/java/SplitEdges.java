@@ -125,7 +125,28 @@ final class SplitEdges {
         return x.settle(0) + ": " + x.splitNumber(0, 3);
     }
 
+    private static int[] numbers(String text) {
+        String[] parts = text.split(" ");
+        int[] found = new int[parts.length];
+        for (int i = 0; i < parts.length; i++) {
+            found[i] = Integer.parseInt(parts[i]);
+        }
+        return found;
+    }
+
     private static void ways() {
+        Edge.sentence(Edge.DESCRIPTION, "(Then A * A + B * B = P, and A > B > 0.)");
+        for (int number = 5; number <= 997; number++) {
+            Rootwalk x = new Rootwalk();
+            if (x.split(0, number) != -9) {
+                int[] way = numbers(x.way(0));
+                Edge.eq("squares of " + x.way(0), way[0] * way[0] + way[1] * way[1], number);
+                Edge.eq("greater than 0 of " + x.way(0), way[0] > way[1] && way[1] > 0, true);
+                x.settle(0);
+                Edge.eq("A and B", x.splitNumber(0, 3) + " " + x.splitNumber(0, 4), x.way(0));
+            }
+        }
+
         Edge.sentence(Edge.DESCRIPTION, "The WAY of P is A and B, as they are when a SPLIT that was begun with P comes to be SETTLED for the first time.");
         Edge.eq("of 5", Edge.splitOf(5).way(0), "2 1");
         Edge.eq("of 17", Edge.splitOf(17).way(0), "4 1");
@@ -244,6 +265,12 @@ final class SplitEdges {
         x.settle(0);
         x.euclid(0);
         Edge.eq("behind some steps", x.product(0, 1), "68 19 56 43");
+        for (int number : new int[] {5, 13, 17, 677, 977, 997}) {
+            x.split(2, number);
+            int[] sides = numbers(x.product(0, 2));
+            Edge.eq("one way of 997 * " + number, sides[0] * sides[0] + sides[1] * sides[1], 997 * number);
+            Edge.eq("the other way of 997 * " + number, sides[2] * sides[2] + sides[3] * sides[3], 997 * number);
+        }
     }
 
     private static void symbol() {

@@ -49,12 +49,31 @@ final class WalkEdges {
         Edge.eq("of 99", parts(99, 0), "0 1 9");
         Edge.eq("of 61", parts(61, 0), "0 1 7");
 
+        Edge.sentence(Edge.DESCRIPTION, "M(k) = D(k - 1) * A(k - 1) - M(k - 1); D(k) = (n - M(k) * M(k)) / D(k - 1) (there is never a rest);");
+        for (int base = 2; base <= 99; base++) {
+            if (!Edge.isSquare(base)) {
+                eachStep(base);
+            }
+        }
+
         Edge.sentence(Edge.DESCRIPTION, "A(k) = (r + M(k)) / D(k), rounded down.");
         Edge.eq("of 61 at 1, 14 / 12", parts(61, 1), "7 12 1");
         Edge.eq("of 61 at 2, 12 / 3 without a rest", parts(61, 2), "5 3 4");
         Edge.eq("of 61 at 3, 14 / 4", parts(61, 3), "7 4 3");
         Edge.eq("of 3 at 1, 2 / 2", parts(3, 1), "1 2 1");
         Edge.eq("of 94 at 24", parts(94, 24), "8 2 8");
+    }
+
+    private static void eachStep(int base) {
+        Rootwalk x = Edge.walkAt(base, 0);
+        for (int step = 1; step <= 24; step++) {
+            int m = x.part(0, 3);
+            int d = x.part(0, 4);
+            int a = x.part(0, 5);
+            x.forth(0, 1);
+            Edge.eq("M of " + Edge.walk(x, 0), x.part(0, 3), d * a - m);
+            Edge.eq("D of " + Edge.walk(x, 0), x.part(0, 4) * d, base - x.part(0, 3) * x.part(0, 3));
+        }
     }
 
     private static String parts(int base, int step) {

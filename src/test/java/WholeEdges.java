@@ -94,22 +94,39 @@ final class WholeEdges {
 
     private static void refusedActs() {
         Edge.sentence(Edge.DESCRIPTION, "-9 is told by an ACT that is let, but cannot be done, as told there; nothing but the count of these is changed then.");
+        Edge.tellsMinusNine("forth", full(), x -> x.forth(2, 1));
+        Edge.tellsMinusNine("back", full(), x -> x.back(1));
+        Edge.tellsMinusNine("take", full(), x -> x.take(2, 0));
+        Edge.tellsMinusNine("compose of unlike BASES", full(), x -> x.compose(0, 1, 1));
+        Edge.tellsMinusNine("compose of long ones", full(), x -> x.compose(2, 2, 0));
+        Edge.tellsMinusNine("power", full(), x -> x.power(2, 5));
+        Edge.tellsMinusNine("divideBy 0", full(), x -> x.divideBy(0, 0));
+        Edge.tellsMinusNine("divideBy 99", full(), x -> x.divideBy(1, 99));
+        Edge.tellsMinusNine("split", full(), x -> x.split(2, 996));
+        Edge.tellsMinusNine("euclid", full(), x -> x.euclid(0));
+
+        Rootwalk each = full();
+        int before = each.house(3);
+        each.forth(2, 1);
+        each.back(1);
+        each.take(2, 0);
+        each.compose(0, 1, 1);
+        each.power(2, 5);
+        each.divideBy(0, 0);
+        each.split(2, 996);
+        each.euclid(0);
+        Edge.eq("each kind of them", each.house(3), before + 8);
+    }
+
+    /** A busy one with a WALK that is too long to be taken, and a PAIR that is too long for a PRODUCT. */
+    private static Rootwalk full() {
         Rootwalk x = Edge.busy();
         x.open(2, 82);
         Edge.go(x, 2, 24);
-        Edge.tellsMinusNine("forth", x, y -> y.forth(2, 1));
-        Edge.tellsMinusNine("back", x, y -> y.back(1));
-        Edge.tellsMinusNine("take", x, y -> y.take(2, 0));
-        Edge.tellsMinusNine("compose of unlike BASES", x, y -> y.compose(0, 2, 1));
+        x.put(1, 2, 7, 100);
         x.pairCopy(0, 2);
-        Edge.eq("two short of too long", x.power(2, 2), 1);
-        Edge.tellsMinusNine("compose of long ones", x, y -> y.compose(2, 2, 0));
-        Edge.tellsMinusNine("power", x, y -> y.power(2, 5));
-        Edge.tellsMinusNine("divideBy 0", x, y -> y.divideBy(0, 0));
-        Edge.tellsMinusNine("divideBy 99", x, y -> y.divideBy(1, 99));
-        Edge.tellsMinusNine("split", x, y -> y.split(2, 996));
-        Edge.tellsMinusNine("euclid", x, y -> y.euclid(0));
-        Edge.eq("all of them", x.house(3), 12);
+        x.power(2, 2);
+        return x;
     }
 
     private static void answersOfMinusNine() {
@@ -180,19 +197,17 @@ final class WholeEdges {
 
     private static void exceptionsAheadOfMinusNine() {
         Edge.sentence(Edge.DESCRIPTION, "exceptions go ahead of -9.");
-        Rootwalk full = Edge.walkAt(82, 24);
-        Edge.refuses(ARGUMENT, "forth behind 24", full, x -> x.forth(0, 7));
-        Edge.refuses(INDEX, "take of a long TOP", full, x -> x.take(0, 3));
-        Rootwalk x = Edge.twoTo(79);
-        x.put(1, 3, 1, 0);
-        Edge.refuses(INDEX, "compose of unlike BASES", x, y -> y.compose(0, 1, 3));
-        Edge.refuses(INDEX, "compose of long ones", x, y -> y.compose(0, 0, -1));
-        Edge.refuses(ARGUMENT, "power of a long one", x, y -> y.power(0, 6));
-        Edge.refuses(ARGUMENT, "divideBy, no multiple", x, y -> y.divideBy(1, 100));
-        Edge.refuses(INDEX, "divideBy 0", x, y -> y.divideBy(3, 0));
-        Edge.refuses(INDEX, "split, not SPLITTABLE", x, y -> y.split(3, 6));
-        Edge.refuses(ARGUMENT, "split, out of range and not SPLITTABLE", x, y -> y.split(0, 1000));
-        Edge.refuses(INDEX, "back at 0", x, y -> y.back(3));
+        Edge.refuses(ARGUMENT, "forth behind 24", full(), x -> x.forth(2, 7));
+        Edge.refuses(INDEX, "back at 0", full(), x -> x.back(3));
+        Edge.refuses(INDEX, "take of a long TOP", full(), x -> x.take(2, 3));
+        Edge.refuses(INDEX, "compose of unlike BASES", full(), x -> x.compose(0, 1, 3));
+        Edge.refuses(INDEX, "compose of long ones", full(), x -> x.compose(2, 2, -1));
+        Edge.refuses(ARGUMENT, "power of a long one", full(), x -> x.power(2, 6));
+        Edge.refuses(ARGUMENT, "divideBy, no multiple", full(), x -> x.divideBy(1, 100));
+        Edge.refuses(INDEX, "divideBy 0", full(), x -> x.divideBy(3, 0));
+        Edge.refuses(INDEX, "split, not SPLITTABLE", full(), x -> x.split(3, 6));
+        Edge.refuses(ARGUMENT, "split, out of range and not SPLITTABLE", full(), x -> x.split(0, 1000));
+        Edge.refuses(INDEX, "euclid with B = 0", full(), x -> x.euclid(-1));
     }
 
     private static void texts() {
@@ -298,7 +313,7 @@ final class WholeEdges {
                 boolean isSound = y.isSound();
                 for (int step = 0; step < 12; step++) {
                     y.euclid(0);
-                    isSound = isSound && y.isSound();
+                    isSound = isSound && y.isSound() && areFactsOfSplit(y);
                 }
                 Edge.eq("at each step of " + number, isSound, true);
             }
@@ -321,6 +336,16 @@ final class WholeEdges {
             int next = Edge.walkAt(base, step + 1).part(0, 4);
             Edge.eq("tests of " + Edge.walk(x, 0), x.test(0, 0) + " " + x.test(0, 1) + " " + x.test(0, 2), "1 " + sign + " " + sign * next);
         }
+    }
+
+    private static boolean areFactsOfSplit(Rootwalk x) {
+        int prime = x.splitNumber(0, 0);
+        int imaginary = x.splitNumber(0, 2);
+        int a = x.splitNumber(0, 3);
+        int b = x.splitNumber(0, 4);
+        int u = x.splitNumber(0, 5);
+        int v = x.splitNumber(0, 6);
+        return (a * a + u * u) % prime == 0 && (imaginary * imaginary + 1) % prime == 0 && a * Math.abs(v) + b * Math.abs(u) == prime;
     }
 
     private static String soundAtTheEnds(int base) {
