@@ -83,8 +83,8 @@ final class Edge {
         return wrong;
     }
 
-    static int tests() {
-        return tests;
+    static String count() {
+        return tests + " tests of " + TOLD.size() + " sentences";
     }
 
     // ---- what is due

@@ -13,7 +13,7 @@ public final class EdgeTests {
             System.out.println("EdgeTests: no test tells " + line);
         }
         int wrong = Edge.wrongOnes() + Edge.untold().size();
-        System.out.println(wrong == 0 ? "EdgeTests: " + Edge.tests() + " sentences hold" : "EdgeTests: " + wrong + " wrong answers");
+        System.out.println(wrong == 0 ? "EdgeTests: " + Edge.count() + " hold" : "EdgeTests: " + wrong + " wrong answers");
         if (wrong != 0) {
             System.exit(1);
         }
