@@ -134,7 +134,7 @@ public final class Rootwalk {
         Whole bottom = fraction.bottom(asked.step);
         return radix == 0
             ? desk.isReadFromBytes(top) && desk.isReadFromBytes(bottom)
-            : desk.isReadFromText(top, radix) && desk.isReadFromText(bottom, radix);
+            : desk.areReadFromText(top, bottom, radix);
     }
 
     public boolean isNear(int walk, int times) throws IndexOutOfBoundsException, IllegalArgumentException {
@@ -1070,6 +1070,13 @@ public final class Rootwalk {
 
         String text(Whole value, int radix) {
             StringBuilder out = new StringBuilder();
+            write(out, value, radix);
+            return out.toString();
+        }
+
+        /** What was written there before is gone. */
+        private void write(StringBuilder out, Whole value, int radix) {
+            out.setLength(0);
             shown.setWhole(value);
             // the first digit is put even if it is 0; they come last one first
             for (int i = 0; i < MOST_DIGITS && (i == 0 || !shown.isZero()); i++) {
@@ -1079,11 +1086,19 @@ public final class Rootwalk {
             if (value.isBelow()) {
                 out.append('-');
             }
-            return out.reverse().toString();
+            out.reverse();
         }
 
-        boolean isReadFromText(Whole value, int radix) {
-            String written = text(value, radix);
+        /** Both are of 0 or more, and written one after the other into the same builder, for room. */
+        boolean areReadFromText(Whole one, Whole other, int radix) {
+            StringBuilder out = new StringBuilder();
+            write(out, one, radix);
+            boolean isOneRead = isReadFrom(out, one, radix);
+            write(out, other, radix);
+            return isOneRead && isReadFrom(out, other, radix);
+        }
+
+        private boolean isReadFrom(StringBuilder written, Whole value, int radix) {
             first.setNumber(0);
             for (int i = 0; i < written.length(); i++) {
                 char sign = written.charAt(i);
